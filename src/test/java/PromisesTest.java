@@ -596,8 +596,11 @@ public final class PromisesTest {
         Due.is("17: endless, below", x.alike(6, 8), 0);
         Due.is("6: a number again", x.put(lost, 0, 0, 1000), 1);
         Due.is("17: a number again", x.alike(lost, lost), 1);
-        Due.is("13: room is left", x.count(0), 14);
+        Due.real("13: -1 * endless", x.real(x.product(7, 6), 0, 0), -much);
+        Due.is("13: room is left", x.count(0), 15);
         sums();
+        nearlyEndless(1);
+        nearlyEndless(-1);
     }
 
     private static void sums() {
@@ -626,6 +629,22 @@ public final class PromisesTest {
         Due.is("17: with one left", x.alike(made, made), 0);
         x.put(made, 0, 3, 0);
         Due.is("17: without", x.alike(made, made), 1);
+    }
+
+    /** The 48th power, times what brings it near the greatest double: that times 0 is 0. */
+    private static void nearlyEndless(int sign) {
+        NestTables x = with(REALS, new int[][] {{MAX}});
+        for (int t = 0; t < 5; t++) {
+            x.product(t, t);
+        }
+        int power = x.product(4, 5);
+        int more = add(x, REALS, new int[][] {{sign * (int) (1.7e308 / x.real(power, 0, 0) * 1000)}});
+        int most = x.product(power, more);
+        Due.is("13: nearly endless", x.real(most, 0, 0) * sign > 1.6e308 ? 1 : 0, 1);
+        Due.is("13: not endless", x.real(most, 0, 0) * sign < 1.75e308 ? 1 : 0, 1);
+        int zero = add(x, REALS, new int[][] {{0}});
+        int none = x.product(most, zero);
+        Due.is("13: times 0 is 0", x.alike(none, zero), 1);
     }
 
     private static void promise13Edges() {
@@ -776,6 +795,11 @@ public final class PromisesTest {
         Due.is("17: links", l.alike(0, 1), 1);
         Due.is("17: links to others, that are alike", l.alike(1, 2), 0);
         Due.is("17: a link and none", l.alike(0, 3), 0);
+        NestTables f = with(NUMBERS, new int[12][16]);
+        add(f, NUMBERS, new int[12][16]);
+        Due.is("17: as large as can be", f.alike(0, 1), 1);
+        f.put(1, 11, 15, 1);
+        Due.is("17: the last cell", f.alike(0, 1), 0);
         NestTables b = with(BITS, new int[][] {{7}});
         add(b, BITS, new int[][] {{-1}});
         Due.is("17: bits", b.alike(0, 1), 1);

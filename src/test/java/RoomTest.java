@@ -31,25 +31,26 @@ public final class RoomTest {
             x.row(i % 16, i % 12, i % 17);
         }
         bounded("rows at every place, and anew", x);
-        NestTables y = new NestTables();
-        loseNumbers(y);
-        bounded("reals beyond all bounds", y);
+        bounded("endless less endless", loseNumbers(Integer.MIN_VALUE));
+        bounded("endless times 0", loseNumbers(0));
         Due.end();
     }
 
-    /** Squares of a table with both signs and 0, as long as there is room. */
-    private static void loseNumbers(NestTables x) {
+    /** Squares of a table with these beside its greatest cells, as long as there is room. */
+    private static NestTables loseNumbers(int beside) {
+        NestTables x = new NestTables();
         x.table(REALS, 3);
         for (int i = 0; i < 3; i++) {
             x.row(0, i, 3);
             x.put(0, i, i, Integer.MAX_VALUE);
-            x.put(0, i, (i + 1) % 3, Integer.MIN_VALUE);
+            x.put(0, i, (i + 1) % 3, beside);
         }
         for (int t = 0; t < 15; t++) {
             x.product(t, t);
         }
         Due.is("no number is reached", x.alike(15, 15), 0);
         Due.is("sixteen tables", x.count(0), 16);
+        return x;
     }
 
     private static void bounded(String when, NestTables x) throws IllegalAccessException {
