@@ -45,15 +45,17 @@ public final class RoomTest {
             x.put(0, i, i, Integer.MAX_VALUE);
             x.put(0, i, (i + 1) % 3, beside);
         }
-        for (int t = 0; t < 13; t++) {
+        for (int t = 0; t < 12; t++) {
             x.product(t, t);
         }
         x.table(REALS, 3);
         for (int i = 0; i < 3; i++) {
-            x.row(14, i, 3);
+            x.row(13, i, 3);
         }
-        Due.is("0 times all that is endless", x.product(14, 6), 15);
-        Due.is("no number is reached", x.alike(13, 13), 0);
+        Due.is("0 times all that is endless", x.product(13, 6), 14);
+        Due.is("all that is endless times 0", x.product(6, 13), 15);
+        Due.is("no number is reached", x.alike(12, 12), 0);
+        Due.is("no number is reached", x.alike(14, 14), 0);
         Due.is("no number is reached", x.alike(15, 15), 0);
         Due.is("sixteen tables", x.count(0), 16);
         return x;
