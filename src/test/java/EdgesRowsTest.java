@@ -92,10 +92,13 @@ public final class EdgesRowsTest {
         for (int p = 0; p < 192; p++) {
             full.append(Edge.script("row(%d, %d, 16) = 1", p / 12, p % 12));
         }
-        Edge.run(words + ", at every place there can be", full + "count(1) = 192; count(2) = 0; put(15, 11, 15, 4); "
-            + "put(0, 0, 15, 5); "
+        Edge.run(words + ", at every place there can be", full + "count(1) = 192; count(2) = 0; put(15, 11, 15, 4); put(0, 0, 15, 5); "
             + "row(15, 11, 16) = 1; get(15, 11, 15) = 0; get(0, 0, 15) = 5; count(1) = 192; same(15, 11, 15, 10) = 0; "
-                + "same(15, 11, 0, 0) = 0");
+            + "same(15, 11, 0, 0) = 0; row(0, 0, 16) = 1; row(7, 5, 16) = 1; count(1) = 192; same(0, 0, 15, 11) = 0; "
+            + "same(7, 5, 15, 11) = 0; same(0, 0, 7, 5) = 0; put(0, 0, 3, 9); get(15, 11, 3) = 0; get(7, 5, 3) = 0");
+        Edge.run(words + ", more than there are places", "table(1, 3); row(0, 2, 1); put(0, 2, 0, 8); "
+            + "row(0, 0, 1); row(0, 1, 1); ".repeat(240) + "count(1) = 3; same(0, 0, 0, 1) = 0; same(0, 0, 0, 2) = 0; "
+            + "same(0, 1, 0, 2) = 0; get(0, 2, 0) = 8; put(0, 0, 0, 6); get(0, 1, 0) = 0");
     }
 
     private static void rowRefused() {
